@@ -76,7 +76,6 @@ public final class SlotForest {
         rules.take(draft);
         sets.find();
         machine.clear();
-        forgetReadings();
         return rules.slots;
     }
 
@@ -133,7 +132,9 @@ public final class SlotForest {
             throw new IllegalArgumentException("the tape holds no input");
         }
         machine.run();
-        forgetReadings();
+        forest.forget();
+        treeCount.forget();
+        leastTree.forget();
         return machine.accepts();
     }
 
@@ -178,7 +179,8 @@ public final class SlotForest {
             return 0L;
         }
         treeCount.find();
-        return treeCount.ofRoot();
+        long number = treeCount.ofRoot();
+        return number == TreeCount.UNKNOWN ? NONE : number;
     }
 
     public int least() {
@@ -225,12 +227,6 @@ public final class SlotForest {
     private void setFault(int kind, int place) {
         faultKind = kind;
         faultPlace = place;
-    }
-
-    private void forgetReadings() {
-        forest.forget();
-        treeCount.forget();
-        leastTree.forget();
     }
 
     private static boolean isName(int c) {
@@ -574,7 +570,6 @@ public final class SlotForest {
             int length = to - from;
             if (alternates < MAX_ALTERNATES && symbols + length <= MAX_SYMBOLS) {
                 placeOf[alternates] = place;
-                startOf[alternates] = symbols;
                 startOf[alternates + 1] = symbols + length;
                 System.arraycopy(pending, from, symbol, symbols, length);
             }
@@ -1189,11 +1184,11 @@ public final class SlotForest {
     /**
      * A number for each reached slot and each symbol node, found from the short spans to the long
      * ones: a node's parts are in spans within its own. Only those of its very span can depend on
-     * one another, which is why each span is swept until nothing moves.
+     * one another, which is why each span is swept until no node moves.
      */
     private abstract static class Measure {
-        /** Each sweep settles a nonterminal; one more settles slots alone, and one sees no change. */
-        private static final int MAX_SWEEPS = MAX_NONTERMINALS + 3;
+        /** In each sweep but the last a node of another nonterminal comes to its end. */
+        private static final int MAX_SWEEPS = MAX_NONTERMINALS + 1;
 
         final Grammar rules;
         final Machine machine;
@@ -1201,18 +1196,16 @@ public final class SlotForest {
         final long[] slotValue;
         final long[] nodeValue;
         private final long ofNothing;
-        private final long unknown;
-        private final long neverKnown;
+        private final long ofUnknown;
         private boolean found;
 
-        /** Told are the value ahead of a first symbol, that of what is open, and what this becomes. */
-        Measure(Grammar rules, Machine machine, Forest forest, long ofNothing, long unknown, long neverKnown) {
+        /** Told are the values of nothing at all and of a node that is yet to be looked at. */
+        Measure(Grammar rules, Machine machine, Forest forest, long ofNothing, long ofUnknown) {
             this.rules = rules;
             this.machine = machine;
             this.forest = forest;
             this.ofNothing = ofNothing;
-            this.unknown = unknown;
-            this.neverKnown = neverKnown;
+            this.ofUnknown = ofUnknown;
             slotValue = new long[MAX_SLOTS * SPANS];
             nodeValue = new long[MAX_NONTERMINALS * SPANS];
             found = false;
@@ -1240,8 +1233,6 @@ public final class SlotForest {
                 return;
             }
             found = true;
-            Arrays.fill(slotValue, 0, rules.slots * SPANS, unknown);
-            Arrays.fill(nodeValue, 0, rules.nonterminals * SPANS, unknown);
             for (int width = 0; width <= machine.length; width++) {
                 for (int i = 0; i + width <= machine.length; i++) {
                     settle(i, i + width);
@@ -1250,26 +1241,22 @@ public final class SlotForest {
         }
 
         private void settle(int i, int k) {
+            for (int y = 0; y < rules.nonterminals; y++) {
+                nodeValue[at(y, i, k)] = ofUnknown;
+            }
             boolean moved = true;
             for (int sweep = 0; moved && sweep < MAX_SWEEPS; sweep++) {
-                moved = sweepSlots(i, k);
-                moved = sweepNodes(i, k) || moved;
+                sweepSlots(i, k);
+                moved = sweepNodes(i, k);
             }
-            close(slotValue, rules.slots, i, k);
-            close(nodeValue, rules.nonterminals, i, k);
         }
 
-        private boolean sweepSlots(int i, int k) {
-            boolean moved = false;
+        private void sweepSlots(int i, int k) {
             for (int s = 0; s < rules.slots; s++) {
                 if (machine.hasReached(s, i, k)) {
-                    long value = rules.symbolsAhead(s) == 0 ? ofNothing : measureSlot(s, i, k);
-                    int at = at(s, i, k);
-                    moved = moved || slotValue[at] != value;
-                    slotValue[at] = value;
+                    slotValue[at(s, i, k)] = rules.symbolsAhead(s) == 0 ? ofNothing : measureSlot(s, i, k);
                 }
             }
-            return moved;
         }
 
         private boolean sweepNodes(int i, int k) {
@@ -1284,24 +1271,18 @@ public final class SlotForest {
             }
             return moved;
         }
-
-        private void close(long[] values, int rows, int i, int k) {
-            for (int row = 0; row < rows; row++) {
-                int at = at(row, i, k);
-                if (values[at] == unknown) {
-                    values[at] = neverKnown;
-                }
-            }
-        }
     }
 
     /**
-     * How many trees there are. Every node has one at least, so 0 can mean that the number is not
-     * known yet; what a span's sweeps leave unknown leads round in a circle and has no end.
+     * How many trees there are. Every node has one at least, so no number but 0 is free to mean that
+     * it is unknown. What its span's sweeps leave unknown leads round in a circle: its trees are
+     * without end, and so are those of all that it is a part of.
      */
     private static final class TreeCount extends Measure {
+        private static final long UNKNOWN = 0L;
+
         TreeCount(Grammar rules, Machine machine, Forest forest) {
-            super(rules, machine, forest, 1L, 0L, NONE);
+            super(rules, machine, forest, 1L, UNKNOWN);
         }
 
         long measureSlot(int slot, int i, int k) {
@@ -1310,12 +1291,12 @@ public final class SlotForest {
             long sum = 0L;
             for (int p = i; p <= k; p++) {
                 if (has(pivots, p)) {
+                    long ahead = slotValue[at(slot - 1, i, p)];
                     long ofSymbol = symbol >= 0 ? nodeValue[at(symbol, p, k)] : 1L;
-                    long both = times(slotValue[at(slot - 1, i, p)], ofSymbol);
-                    if (both == 0L) {
-                        return 0L;
+                    if (ahead == UNKNOWN || ofSymbol == UNKNOWN) {
+                        return UNKNOWN;
                     }
-                    sum = plus(sum, both);
+                    sum = Math.min(sum + times(ahead, ofSymbol), MOST_TREES);
                 }
             }
             return sum;
@@ -1327,27 +1308,17 @@ public final class SlotForest {
                 int last = rules.lastSlot(a);
                 if (machine.hasReached(last, i, k)) {
                     long mine = slotValue[at(last, i, k)];
-                    if (mine == 0L) {
-                        return 0L;
+                    if (mine == UNKNOWN) {
+                        return UNKNOWN;
                     }
-                    sum = plus(sum, mine);
+                    sum = Math.min(sum + mine, MOST_TREES);
                 }
             }
             return sum;
         }
 
-        private static long plus(long a, long b) {
-            return a == NONE || b == NONE ? NONE : Math.min(a + b, MOST_TREES);
-        }
-
         private static long times(long a, long b) {
-            if (a == 0L || b == 0L) {
-                return 0L;
-            }
-            if (a == NONE || b == NONE) {
-                return NONE;
-            }
-            return a > MOST_TREES / b ? MOST_TREES : a * b;
+            return b > 0L && a > MOST_TREES / b ? MOST_TREES : a * b;
         }
     }
 
@@ -1363,7 +1334,7 @@ public final class SlotForest {
         private boolean walked;
 
         LeastTree(Grammar rules, Machine machine, Forest forest) {
-            super(rules, machine, forest, 0L, MOST_IN_TREE, MOST_IN_TREE);
+            super(rules, machine, forest, 0L, MOST_IN_TREE);
             stepRow = new int[MAX_STEPS];
             stepFrom = new int[MAX_STEPS];
             stepTo = new int[MAX_STEPS];

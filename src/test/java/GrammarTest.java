@@ -18,6 +18,8 @@ public final class GrammarTest {
         rules();
         sets();
         setsAtTheEdge();
+        largest();
+        oneAfterAnother();
         CHECK.end();
     }
 
@@ -300,5 +302,63 @@ public final class GrammarTest {
         CHECK.due("FOLLOW through a chain", chain.set(2, 4), Check.bits("c"));
         CHECK.due("NULLABLE through a chain", chain.set(0, 3), 1);
         CHECK.due("not NULLABLE behind it", chain.set(0, 2), 0);
+    }
+
+    /** 20 nonterminals, 48 alternates and 150 symbols, and what is asked just behind them. */
+    private static void largest() {
+        StringBuilder text = new StringBuilder();
+        for (int y = 0; y < 20; y++) {
+            text.append((char) ('A' + y)).append(y < 8 ? "=|a|" : "=|").append("abcdefg;");
+        }
+        text.insert(2, "zz");
+        SlotForest x = new SlotForest();
+        CHECK.due("slots of the largest", Check.grammar(x, text.toString()), 198);
+        int[] want = {20, 20, 48, 150};
+        for (int what = 0; what < 4; what++) {
+            CHECK.due("size of the largest " + what, x.size(what), want[what]);
+        }
+        CHECK.due("its last alternate", x.rule(47, -1), 19);
+        CHECK.due("its last symbol", x.rule(47, 6), -2 - Check.bits("g"));
+        CHECK.due("no more alternates", x.rule(48, -1), NONE);
+        CHECK.due("its first SELECT", x.set(3, 0), Check.bits("z"));
+        CHECK.due("its last SELECT", x.set(3, 197), 0);
+        CHECK.due("no more slots", x.set(3, 198), NONE);
+        CHECK.due("its last FIRST", x.set(1, 19), Check.bits("a"));
+        CHECK.due("no more nonterminals", x.set(1, 20), NONE);
+        CHECK.due("input of the largest", Check.parse(x, "a"), true);
+        CHECK.due("no more to reach", x.reached(198, 0, 0), false);
+        CHECK.due("nor behind the places", x.reached(197, 15, 0), false);
+        CHECK.due("no more to be packed", x.packed(20, 0, 1), 0);
+        CHECK.due("nor to be packed there", x.packed(19, 15, 0), 0);
+        SlotForest wide = Check.with("S=" + "a".repeat(149) + "b;");
+        CHECK.due("symbol 149", wide.rule(0, 149), -4);
+        CHECK.due("symbol 150", wide.rule(0, 150), NONE);
+        SlotForest high = Check.with("S=a" + "|".repeat(46) + "|b;");
+        CHECK.due("alternate 47", high.rule(47, 0), -4);
+        CHECK.due("alternate 46", high.rule(46, 0), NONE);
+    }
+
+    /** Nothing of one text is left behind when another is read. */
+    private static void oneAfterAnother() {
+        String[] broken = {"S=((((((a", "S=[a-", "S=a;S=b;", "S=((T));", "S=" + "(a)".repeat(30) + ";", "S=[a-c"};
+        SlotForest x = new SlotForest();
+        for (String text : broken) {
+            for (int again = 0; again < 12; again++) {
+                Check.grammar(x, text);
+                CHECK.due("slots behind " + text, Check.grammar(x, BIG), 23);
+                CHECK.due("names behind " + text, x.size(1), 2);
+                CHECK.due("rule behind " + text, x.rule(9, 1), 5);
+                CHECK.due("set behind " + text, x.rule(1, 0), -2 - Check.bits("cdex"));
+                CHECK.due("slots of another", Check.grammar(x, "X=y;"), 2);
+                CHECK.due("not NULLABLE", x.set(0, 0), 0);
+                CHECK.due("FIRST of another", x.set(1, 0), Check.bits("y"));
+                CHECK.due("FOLLOW of another", x.set(2, 0), Check.bits("$"));
+                CHECK.due("no nonterminals of the one", x.set(0, 1), NONE);
+                CHECK.due("no alternates of the one", x.rule(1, -1), NONE);
+            }
+        }
+        Check.grammar(x, "S=;");
+        Check.grammar(x, "S=a;");
+        CHECK.due("no more NULLABLE", x.set(0, 0), 0);
     }
 }

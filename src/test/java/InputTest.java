@@ -98,6 +98,15 @@ public final class InputTest {
             CHECK.due("reached slot " + far, x.reached(far, 0, 0), false);
         }
         CHECK.due("slot behind the last", x.reached(7, 0, 0), false);
+        SlotForest full = Check.with("S=TT;T=|a;", "");
+        for (int far : FAR) {
+            for (int s = 0; s < 6; s++) {
+                CHECK.due("slot " + s + " reached from " + far, full.reached(s, far, 0), false);
+                CHECK.due("slot " + s + " reached to " + far, full.reached(s, 0, far), false);
+            }
+            CHECK.due("T packed from " + far, full.packed(1, far, 0), 0);
+            CHECK.due("S packed from " + far, full.packed(0, far, 0), 0);
+        }
         CHECK.due("tried only, as SELECT of T's empty alternate lacks b", x.reached(6, 1, 1), false);
         Check.parse(x, "ac");
         CHECK.due("reached now", x.reached(6, 1, 1), true);
@@ -212,6 +221,8 @@ public final class InputTest {
         CHECK.due("10^12", Check.with("S=" + "A".repeat(12) + ten, "").trees(), 1000000000000L);
         CHECK.due("10^11 and 1", Check.with("S=" + "A".repeat(11) + "|" + ten, "").trees(), 100000000001L);
         CHECK.due("10^12 + 1", Check.with("S=" + "A".repeat(12) + "|" + ten, "").trees(), 1000000000000L);
+        CHECK.due("10^12 - 1", Check.with("S=TPQRT;T=E|E|E;P=DD|D|;Q=DDD|;R=DDDDDD|;D=E|E|E|E|E|E|E|E|E|;E=;", "")
+                .trees(), 999999999999L);
         CHECK.due("most and no end", Check.with("S=" + "A".repeat(40) + "|S" + two, "").trees(), NONE);
     }
 

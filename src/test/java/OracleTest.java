@@ -6,9 +6,12 @@ public final class OracleTest {
     private static final Check CHECK = new Check();
 
     private final Random random;
+    /** Used for many grammars, so that what one leaves behind shows in another. */
+    private SlotForest forest;
 
     private OracleTest(long seed) {
         random = new Random(seed);
+        forest = new SlotForest();
     }
 
     public static void main(String[] args) {
@@ -39,6 +42,9 @@ public final class OracleTest {
 
     private void round(int round) {
         String grammar = makeGrammar();
+        if (random.nextInt(50) == 0) {
+            forest = new SlotForest();
+        }
         if (random.nextInt(4) == 0) {
             grammar = spoil(grammar);
         }
@@ -49,7 +55,6 @@ public final class OracleTest {
 
     private void hold(String grammar, String about) {
         Oracle oracle = new Oracle(grammar);
-        SlotForest forest = new SlotForest();
         String got = Check.grammar(forest, grammar);
         CHECK.due(about + " grammar()", got,
                 oracle.faultKind == 0 ? oracle.slots.size() : "IllegalArgumentException");
@@ -58,11 +63,11 @@ public final class OracleTest {
         if (oracle.faultKind != 0 || got.startsWith("Ill")) {
             return;
         }
-        holdGrammar(oracle, forest, about);
+        holdGrammar(oracle, about);
         for (int input = 0; input < 4; input++) {
             String text = makeInput();
             CHECK.due(about + " parse " + text, Check.parse(forest, text), accepted(oracle, text));
-            holdInput(oracle, forest, about + " input " + text);
+            holdInput(oracle, about + " input " + text);
         }
     }
 
@@ -71,7 +76,7 @@ public final class OracleTest {
         return oracle.root != null;
     }
 
-    private static void holdGrammar(Oracle oracle, SlotForest forest, String about) {
+    private void holdGrammar(Oracle oracle, String about) {
         CHECK.due(about + " size(0)", forest.size(0), oracle.nonterminals);
         CHECK.due(about + " size(1)", forest.size(1), oracle.names);
         CHECK.due(about + " size(2)", forest.size(2), oracle.bodies.size());
@@ -95,7 +100,7 @@ public final class OracleTest {
         }
     }
 
-    private void holdInput(Oracle oracle, SlotForest forest, String about) {
+    private void holdInput(Oracle oracle, String about) {
         CHECK.due(about + " FURTHEST", forest.looked(0), oracle.furthest);
         CHECK.due(about + " EXPECTED", forest.looked(1), oracle.expected);
         int least = oracle.least();
@@ -120,12 +125,12 @@ public final class OracleTest {
         CHECK.due(about + " least()", forest.least(), least);
         for (int i = 0; i < 15; i++) {
             for (int k = 0; k < 15; k++) {
-                holdSpan(oracle, forest, i, k, about);
+                holdSpan(oracle, i, k, about);
             }
         }
     }
 
-    private static void holdSpan(Oracle oracle, SlotForest forest, int i, int k, String about) {
+    private void holdSpan(Oracle oracle, int i, int k, String about) {
         for (int s = 0; s < oracle.slots.size(); s++) {
             CHECK.due(about + " reached " + s + " " + i + " " + k, forest.reached(s, i, k),
                     oracle.reached.contains(new Oracle.Descriptor(s, i, k)));
