@@ -9,12 +9,13 @@ import java.util.IdentityHashMap;
 import java.util.Set;
 import java.util.TreeSet;
 
-/** The document's face, no more and no less; how much room an object takes; that 512 calls are free. */
+/** The document's face, no more and no less; how much room an object takes; that objects are apart. */
 public final class FaceTest {
     private static final Check CHECK = new Check();
 
     public static void main(String[] args) throws IllegalAccessException {
         face();
+        inside();
         room();
         twoObjects();
         CHECK.end();
@@ -53,6 +54,23 @@ public final class FaceTest {
                 "public int SlotForest.least()",
                 "public int SlotForest.step(int,int)");
         CHECK.due("face", got, want);
+    }
+
+    /** The classes inside are static, and none of their methods bears a name of the face. */
+    private static void inside() {
+        Set<String> taken = new TreeSet<>();
+        for (Method m : SlotForest.class.getMethods()) {
+            if (m.getDeclaringClass() == SlotForest.class) {
+                taken.add(m.getName());
+            }
+        }
+        for (Class<?> c : SlotForest.class.getDeclaredClasses()) {
+            CHECK.due(c.getName() + " is static", Modifier.isStatic(c.getModifiers()), true);
+            CHECK.due(c.getName() + " is public", Modifier.isPublic(c.getModifiers()), false);
+            for (Method m : c.getDeclaredMethods()) {
+                CHECK.due(m + " has a name of the face", taken.contains(m.getName()), false);
+            }
+        }
     }
 
     private static void add(Set<String> members, Member member, String text) {

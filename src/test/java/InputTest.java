@@ -207,6 +207,9 @@ public final class InputTest {
         CHECK.due("below the root", Check.with("S=bTb;T=UT|a;U=;", "bab").trees(), NONE);
         CHECK.due("of nothing", Check.with("S=SS|;", "").trees(), NONE);
         CHECK.due("x** of nothing", Check.with("S=(a*)*;", "").trees(), NONE);
+        CHECK.due("with one pivot of two", Check.with("S=AB;A=a|;B=D|;D=D|a;", "a").trees(), NONE);
+        CHECK.due("with the other pivot", Check.with("S=BA;A=a|;B=D|;D=D|a;", "a").trees(), NONE);
+        CHECK.due("with one alternate of two", Check.with("S=D|a;D=D|a;", "a").trees(), NONE);
         CHECK.due("x* has an end", Check.with("S=a*;", "aaaaa").trees(), 1);
         CHECK.due("a circle that the input leaves out", Check.with("S=Sa|a|Tb;T=T|b;", "aaa").trees(), 1);
     }
