@@ -2,7 +2,7 @@
 final class Check {
     private int wrong = 0;
 
-    static void type(SlotForest forest, String text) {
+    static void type(Subject forest, String text) {
         for (int at = 0; at < text.length(); at += 8) {
             String part = text.substring(at, Math.min(text.length(), at + 8));
             if (!forest.type(word(part), part.length())) {
@@ -20,7 +20,7 @@ final class Check {
     }
 
     /** The slots of a text's grammar, or what is thrown. */
-    static String grammar(SlotForest forest, String text) {
+    static String grammar(Subject forest, String text) {
         type(forest, text);
         try {
             return Integer.toString(forest.grammar());
@@ -30,7 +30,7 @@ final class Check {
     }
 
     /** Whether a text is accepted, or what is thrown. */
-    static String parse(SlotForest forest, String text) {
+    static String parse(Subject forest, String text) {
         type(forest, text);
         try {
             return Boolean.toString(forest.parse());
@@ -39,8 +39,15 @@ final class Check {
         }
     }
 
-    static SlotForest with(String grammar) {
-        SlotForest forest = new SlotForest();
+    /** A new object with a text that is still on its tape. */
+    static Subject untold(String text) {
+        Subject forest = new Subject();
+        type(forest, text);
+        return forest;
+    }
+
+    static Subject with(String grammar) {
+        Subject forest = new Subject();
         String answer = grammar(forest, grammar);
         if (!Character.isDigit(answer.charAt(0))) {
             throw new IllegalStateException(grammar + " " + answer);
@@ -48,8 +55,8 @@ final class Check {
         return forest;
     }
 
-    static SlotForest with(String grammar, String input) {
-        SlotForest forest = with(grammar);
+    static Subject with(String grammar, String input) {
+        Subject forest = with(grammar);
         parse(forest, input);
         return forest;
     }
@@ -60,6 +67,66 @@ final class Check {
             bits |= letters.charAt(k) == '$' ? 1 << 26 : 1 << letters.charAt(k) - 'a';
         }
         return bits;
+    }
+
+    /** All that is told of the grammar and the input, as one text. */
+    static String answers(Subject x) {
+        StringBuilder all = new StringBuilder(ofGrammar(x));
+        for (int what = 0; what < 8; what++) {
+            all.append(" count ").append(x.count(what));
+        }
+        all.append(" looked ").append(x.looked(0)).append(' ').append(x.looked(1));
+        for (int j = 0; j < 15; j++) {
+            for (int i = j; i < 15; i++) {
+                all.append(ofSpan(x, j, i));
+            }
+        }
+        all.append(" trees ").append(x.trees()).append(" least ").append(x.least());
+        for (int k = 0; k < 500 && x.step(k, 0) != SlotForest.NONE; k++) {
+            all.append(" step ").append(x.step(k, 0)).append(' ').append(x.step(k, 1)).append(' ').append(x.step(k, 2));
+        }
+        return all.toString();
+    }
+
+    private static String ofGrammar(Subject x) {
+        StringBuilder all = new StringBuilder();
+        for (int what = 0; what < 4; what++) {
+            all.append(" size ").append(x.size(what));
+        }
+        for (int a = 0; x.rule(a, -1) != SlotForest.NONE; a++) {
+            all.append(" rule ").append(x.rule(a, -1)).append(':');
+            for (int k = 0; x.rule(a, k) != SlotForest.NONE; k++) {
+                all.append(' ').append(x.rule(a, k));
+            }
+        }
+        for (int what = 0; what < 5; what++) {
+            all.append(" set");
+            for (int number = 0; x.set(what, number) != SlotForest.NONE; number++) {
+                all.append(' ').append(x.set(what, number));
+            }
+        }
+        return all.toString();
+    }
+
+    private static String ofSpan(Subject x, int j, int i) {
+        StringBuilder all = new StringBuilder();
+        for (int s = 0; x.set(3, s) != SlotForest.NONE; s++) {
+            all.append(x.reached(s, j, i) ? " reached " + s + "," + j + "," + i : "");
+        }
+        for (int y = 0; y < x.size(0); y++) {
+            int packed = x.packed(y, j, i);
+            all.append(packed > 0 ? " packed " + y + "," + j + "," + i + ": " + packed : "");
+        }
+        return all.toString();
+    }
+
+    /** A text's fault on a new object; 0, 0 for none. */
+    void fault(String text, int kind, int place) {
+        Subject x = new Subject();
+        String answer = grammar(x, text);
+        due(text + " throws", answer.equals("IllegalArgumentException"), kind != 0);
+        due(text + " fault", x.fault(0), kind);
+        due(text + " place", x.fault(1), place);
     }
 
     void due(String call, Object got, Object want) {

@@ -81,7 +81,7 @@ public final class FaceTest {
 
     /** A run of several objects must fit into one room of 7.3 million fields and elements. */
     private static void room() throws IllegalAccessException {
-        SlotForest x = Check.with("S=SSS|SS|a|;", "aaaaaaaaaaaaaa");
+        SlotForest x = Check.with("S=SSS|SS|a|;", "aaaaaaaaaaaaaa").object();
         x.trees();
         x.step(0, 0);
         x.count(7);
@@ -109,8 +109,8 @@ public final class FaceTest {
     }
 
     private static void twoObjects() {
-        SlotForest a = Check.with("S=a*;", "aa");
-        SlotForest b = Check.with("S=bS|;", "bbb");
+        Subject a = Check.with("S=a*;", "aa");
+        Subject b = Check.with("S=bS|;", "bbb");
         CHECK.due("one object", a.looked(0), 2);
         CHECK.due("another object", b.looked(0), 3);
         CHECK.due("the one's set", a.set(1, 0), Check.bits("a"));

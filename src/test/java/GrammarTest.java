@@ -24,7 +24,7 @@ public final class GrammarTest {
     }
 
     private static void newObject() {
-        SlotForest x = new SlotForest();
+        Subject x = new Subject();
         CHECK.due("new parse()", Check.parse(x, ""), "IllegalStateException");
         for (int what = 0; what < 8; what++) {
             CHECK.due("new count " + what, x.count(what), 0);
@@ -47,7 +47,7 @@ public final class GrammarTest {
     }
 
     private static void typeRefuses() {
-        SlotForest x = new SlotForest();
+        Subject x = new Subject();
         Check.type(x, "S=a");
         for (int n : new int[] {0, -1, 9, 64, Integer.MIN_VALUE, Integer.MAX_VALUE}) {
             CHECK.due("type of n " + n, x.type(Check.word("bbbbbbbb"), n), false);
@@ -67,7 +67,7 @@ public final class GrammarTest {
     }
 
     private static void typeOrder() {
-        SlotForest x = new SlotForest();
+        Subject x = new Subject();
         CHECK.due("type S=abcde;", x.type(0x533D61626364653BL, 8), true);
         CHECK.due("its slots", Check.grammar(x, ""), 6);
         for (int k = 0; k < 5; k++) {
@@ -78,7 +78,7 @@ public final class GrammarTest {
     }
 
     private static void typeLimit() {
-        SlotForest x = new SlotForest();
+        Subject x = new Subject();
         Check.type(x, "S=" + " ".repeat(394));
         CHECK.due("five more than 396", x.type(Check.word("aaaaa"), 5), false);
         CHECK.due("three more than 396", x.type(Check.word("aaa"), 3), true);
@@ -92,7 +92,7 @@ public final class GrammarTest {
     }
 
     private static void grammarReplaces() {
-        SlotForest x = Check.with("S=SS|a|;");
+        Subject x = Check.with("S=SS|a|;");
         CHECK.due("empty tape", Check.grammar(x, ""), "IllegalArgumentException");
         CHECK.due("the grammar stays", x.size(3), 3);
         Check.parse(x, "aa");
@@ -120,69 +120,61 @@ public final class GrammarTest {
         CHECK.due("in a set neither", x.rule(2, 0), -2 - Check.bits("abcd"));
     }
 
-    private static void fault(String text, int kind, int place) {
-        SlotForest x = new SlotForest();
-        String answer = Check.grammar(x, text);
-        CHECK.due(text + " throws", answer.equals("IllegalArgumentException"), kind != 0);
-        CHECK.due(text + " fault", x.fault(0), kind);
-        CHECK.due(text + " place", x.fault(1), place);
-    }
-
     private static void syntaxFaults() {
         String[] missing = {"", "   ", "S", "S=", "S=a", "S=a  ", "S=(", "S=(a", "S=(a)", "S=[", "S=[a", "S=[a-",
             "S=[a-b", "S=a*", "S=a|", "S=a;T", "S=a;T=", "S=a; T ="};
         for (String text : missing) {
-            fault(text, 1, text.length());
+            CHECK.fault(text, 1, text.length());
         }
-        fault("s=a;", 1, 0);
-        fault("=a;", 1, 0);
-        fault("SS=a;", 1, 1);
-        fault("S a;", 1, 2);
-        fault("S=a;;", 1, 4);
-        fault("S=a);", 1, 3);
-        fault("S=(a;", 1, 4);
-        fault("S=(a));", 1, 5);
-        fault("S=a**;", 1, 4);
-        fault("S=a* ?;", 1, 5);
-        fault("S=*a;", 1, 2);
-        fault("S=a|+;", 1, 4);
-        fault("S=(?);", 1, 3);
-        fault("S=[];", 1, 3);
-        fault("S=[a-];", 1, 5);
-        fault("S=[b-a];", 1, 5);
-        fault("S=[b - a];", 1, 7);
-        fault("S=[a-c-e];", 1, 6);
-        fault("S=[-a];", 1, 3);
-        fault("S=[A];", 1, 3);
-        fault("S=[a-B];", 1, 5);
-        fault("S=[ab;", 1, 5);
-        fault("S=[a[b]];", 1, 4);
-        fault("S=a];", 1, 3);
-        fault("S=a-b;", 1, 3);
-        fault("S=a=b;", 1, 3);
-        fault("S=a1;", 1, 3);
-        fault("S=a.;", 1, 3);
-        fault("S=(((((((a)))))));", 1, 8);
-        fault("S=((((((a)((a))))))));", 1, 11);
-        fault("S=((((((a)(a))))))|a;", 0, 0);
-        fault("S=((((((a))))))(a)(a);", 0, 0);
-        fault("S=;", 0, 0);
-        fault("S=|;", 0, 0);
-        fault("S=();", 0, 0);
-        fault("S=()*(|)+[z-z]?;", 0, 0);
-        fault("S=[a-cb-dz];", 0, 0);
+        CHECK.fault("s=a;", 1, 0);
+        CHECK.fault("=a;", 1, 0);
+        CHECK.fault("SS=a;", 1, 1);
+        CHECK.fault("S a;", 1, 2);
+        CHECK.fault("S=a;;", 1, 4);
+        CHECK.fault("S=a);", 1, 3);
+        CHECK.fault("S=(a;", 1, 4);
+        CHECK.fault("S=(a));", 1, 5);
+        CHECK.fault("S=a**;", 1, 4);
+        CHECK.fault("S=a* ?;", 1, 5);
+        CHECK.fault("S=*a;", 1, 2);
+        CHECK.fault("S=a|+;", 1, 4);
+        CHECK.fault("S=(?);", 1, 3);
+        CHECK.fault("S=[];", 1, 3);
+        CHECK.fault("S=[a-];", 1, 5);
+        CHECK.fault("S=[b-a];", 1, 5);
+        CHECK.fault("S=[b - a];", 1, 7);
+        CHECK.fault("S=[a-c-e];", 1, 6);
+        CHECK.fault("S=[-a];", 1, 3);
+        CHECK.fault("S=[A];", 1, 3);
+        CHECK.fault("S=[a-B];", 1, 5);
+        CHECK.fault("S=[ab;", 1, 5);
+        CHECK.fault("S=[a[b]];", 1, 4);
+        CHECK.fault("S=a];", 1, 3);
+        CHECK.fault("S=a-b;", 1, 3);
+        CHECK.fault("S=a=b;", 1, 3);
+        CHECK.fault("S=a1;", 1, 3);
+        CHECK.fault("S=a.;", 1, 3);
+        CHECK.fault("S=(((((((a)))))));", 1, 8);
+        CHECK.fault("S=((((((a)((a))))))));", 1, 11);
+        CHECK.fault("S=((((((a)(a))))))|a;", 0, 0);
+        CHECK.fault("S=((((((a))))))(a)(a);", 0, 0);
+        CHECK.fault("S=;", 0, 0);
+        CHECK.fault("S=|;", 0, 0);
+        CHECK.fault("S=();", 0, 0);
+        CHECK.fault("S=()*(|)+[z-z]?;", 0, 0);
+        CHECK.fault("S=[a-cb-dz];", 0, 0);
     }
 
     private static void nameFaults() {
-        fault("S=a;S=b;", 2, 4);
-        fault(" S=a; T=b; S=c; T=d;", 2, 11);
-        fault("S=T;S=a;", 2, 4);
-        fault("S=a;S=b;*", 1, 8);
-        fault("S=aT;", 3, 3);
-        fault("S=T;T=U;U=V;W=X;", 3, 10);
-        fault("S=(a|(b T)?)*U;", 3, 8);
-        fault("S=T;T=a;", 0, 0);
-        fault("S=U;" + "T=" + "|".repeat(60) + ";", 3, 2);
+        CHECK.fault("S=a;S=b;", 2, 4);
+        CHECK.fault(" S=a; T=b; S=c; T=d;", 2, 11);
+        CHECK.fault("S=T;S=a;", 2, 4);
+        CHECK.fault("S=a;S=b;*", 1, 8);
+        CHECK.fault("S=aT;", 3, 3);
+        CHECK.fault("S=T;T=U;U=V;W=X;", 3, 10);
+        CHECK.fault("S=(a|(b T)?)*U;", 3, 8);
+        CHECK.fault("S=T;T=a;", 0, 0);
+        CHECK.fault("S=U;" + "T=" + "|".repeat(60) + ";", 3, 2);
     }
 
     private static void sizeFaults() {
@@ -190,27 +182,27 @@ public final class GrammarTest {
         for (int y = 0; y < 20; y++) {
             names.append((char) ('A' + y)).append("=;");
         }
-        fault(names.toString(), 0, 0);
-        fault(names + "U=;", 4, 0);
-        fault("S=" + "a?".repeat(19) + ";", 0, 0);
-        fault("S=" + "a?".repeat(20) + ";", 4, 0);
-        fault("S=" + "()".repeat(19) + ";", 0, 0);
-        fault("S=" + "()".repeat(20) + ";", 4, 0);
-        fault("S=" + "|".repeat(47) + ";", 0, 0);
-        fault("S=" + "|".repeat(48) + ";", 4, 0);
-        fault("S=" + "a*".repeat(15) + "|".repeat(17) + ";", 0, 0);
-        fault("S=" + "a*".repeat(15) + "|".repeat(18) + ";", 4, 0);
-        fault("S=" + "a".repeat(150) + ";", 0, 0);
-        fault("S=" + "a".repeat(151) + ";", 4, 0);
-        fault("S=" + "a".repeat(146) + "b+;", 0, 0);
-        fault("S=" + "a".repeat(147) + "b+;", 4, 0);
-        fault("S=" + "a".repeat(397) + ";", 4, 0);
-        fault("S=" + "a+".repeat(198) + ";", 4, 0);
-        fault("S=" + "()?".repeat(132) + ";", 4, 0);
+        CHECK.fault(names.toString(), 0, 0);
+        CHECK.fault(names + "U=;", 4, 0);
+        CHECK.fault("S=" + "a?".repeat(19) + ";", 0, 0);
+        CHECK.fault("S=" + "a?".repeat(20) + ";", 4, 0);
+        CHECK.fault("S=" + "()".repeat(19) + ";", 0, 0);
+        CHECK.fault("S=" + "()".repeat(20) + ";", 4, 0);
+        CHECK.fault("S=" + "|".repeat(47) + ";", 0, 0);
+        CHECK.fault("S=" + "|".repeat(48) + ";", 4, 0);
+        CHECK.fault("S=" + "a*".repeat(15) + "|".repeat(17) + ";", 0, 0);
+        CHECK.fault("S=" + "a*".repeat(15) + "|".repeat(18) + ";", 4, 0);
+        CHECK.fault("S=" + "a".repeat(150) + ";", 0, 0);
+        CHECK.fault("S=" + "a".repeat(151) + ";", 4, 0);
+        CHECK.fault("S=" + "a".repeat(146) + "b+;", 0, 0);
+        CHECK.fault("S=" + "a".repeat(147) + "b+;", 4, 0);
+        CHECK.fault("S=" + "a".repeat(397) + ";", 4, 0);
+        CHECK.fault("S=" + "a+".repeat(198) + ";", 4, 0);
+        CHECK.fault("S=" + "()?".repeat(132) + ";", 4, 0);
     }
 
     private static void faultOfLatest() {
-        SlotForest x = new SlotForest();
+        Subject x = new Subject();
         Check.grammar(x, "S=a;S=b;");
         CHECK.due("fault of another what", x.fault(2), NONE);
         CHECK.due("fault of what -1", x.fault(-1), NONE);
@@ -224,7 +216,7 @@ public final class GrammarTest {
     }
 
     private static void sizes() {
-        SlotForest x = Check.with(BIG);
+        Subject x = Check.with(BIG);
         int[] want = {6, 2, 11, 12, NONE};
         for (int what = 0; what < want.length; what++) {
             CHECK.due("size " + what, x.size(what), want[what]);
@@ -234,7 +226,7 @@ public final class GrammarTest {
     }
 
     private static void rules() {
-        SlotForest x = Check.with(BIG);
+        Subject x = Check.with(BIG);
         int[][] want = {
             {0, 3, 4}, {1, -2 - Check.bits("cdex"), 5}, {1}, {2, -3}, {2, -4}, {3, 2, 3}, {3, 2}, {4, 1}, {4},
             {5, 0, 5}, {5}
@@ -252,17 +244,17 @@ public final class GrammarTest {
             CHECK.due("rule of no alternate " + a, x.rule(a, -1), NONE);
             CHECK.due("symbol of no alternate " + a, x.rule(a, 0), NONE);
         }
-        SlotForest order = Check.with("S=(a(b)*)+;");
+        Subject order = Check.with("S=(a(b)*)+;");
         CHECK.due("(b) ends first", order.rule(order.size(2) - 1, 0), 3);
         CHECK.due("(b) is 1", order.rule(1, 0), -2 - Check.bits("b"));
         CHECK.due("(b)* is 2", order.rule(2, 0), 1);
         CHECK.due("(a(b)*) is 3", order.rule(4, -1), 3);
-        SlotForest all = Check.with("S=[a-z];");
+        Subject all = Check.with("S=[a-z];");
         CHECK.due("the widest set", all.rule(0, 0), -2 - 0x3FFFFFF);
     }
 
     private static void sets() {
-        SlotForest x = Check.with(BIG);
+        Subject x = Check.with(BIG);
         int[] nullable = {0, 1, 0, 0, 1, 1};
         String[] first = {"ab", "cdex", "ab", "ab", "cdex", "ab"};
         String[] follow = {"ab$", "ab$", "abcdex$", "abcdex$", "ab$", "ab$"};
@@ -288,16 +280,16 @@ public final class GrammarTest {
     }
 
     private static void setsAtTheEdge() {
-        SlotForest aside = Check.with("S=a;T=Sb;");
+        Subject aside = Check.with("S=a;T=Sb;");
         CHECK.due("FOLLOW by a rule that START never leads to", aside.set(2, 0), Check.bits("b$"));
         CHECK.due("FOLLOW of what stands nowhere", aside.set(2, 1), 0);
         CHECK.due("SELECT behind it", aside.set(3, 4), 0);
-        SlotForest endless = Check.with("S=aS|T;T=Tb;");
+        Subject endless = Check.with("S=aS|T;T=Tb;");
         CHECK.due("FIRST of what never ends", endless.set(1, 0), Check.bits("a"));
         CHECK.due("FIRST of what never begins", endless.set(1, 1), 0);
         CHECK.due("FOLLOW in it", endless.set(2, 1), Check.bits("b$"));
         CHECK.due("apart with nothing", endless.set(4, 0), 1);
-        SlotForest chain = Check.with("A=Ba;B=Cb;C=Dc;D=E;E=|e;");
+        Subject chain = Check.with("A=Ba;B=Cb;C=Dc;D=E;E=|e;");
         CHECK.due("FIRST through a chain", chain.set(1, 0), Check.bits("ce"));
         CHECK.due("FOLLOW through a chain", chain.set(2, 4), Check.bits("c"));
         CHECK.due("NULLABLE through a chain", chain.set(0, 3), 1);
@@ -311,7 +303,7 @@ public final class GrammarTest {
             text.append((char) ('A' + y)).append(y < 8 ? "=|a|" : "=|").append("abcdefg;");
         }
         text.insert(2, "zz");
-        SlotForest x = new SlotForest();
+        Subject x = new Subject();
         CHECK.due("slots of the largest", Check.grammar(x, text.toString()), 198);
         int[] want = {20, 20, 48, 150};
         for (int what = 0; what < 4; what++) {
@@ -330,10 +322,10 @@ public final class GrammarTest {
         CHECK.due("nor behind the places", x.reached(197, 15, 0), false);
         CHECK.due("no more to be packed", x.packed(20, 0, 1), 0);
         CHECK.due("nor to be packed there", x.packed(19, 15, 0), 0);
-        SlotForest wide = Check.with("S=" + "a".repeat(149) + "b;");
+        Subject wide = Check.with("S=" + "a".repeat(149) + "b;");
         CHECK.due("symbol 149", wide.rule(0, 149), -4);
         CHECK.due("symbol 150", wide.rule(0, 150), NONE);
-        SlotForest high = Check.with("S=a" + "|".repeat(46) + "|b;");
+        Subject high = Check.with("S=a" + "|".repeat(46) + "|b;");
         CHECK.due("alternate 47", high.rule(47, 0), -4);
         CHECK.due("alternate 46", high.rule(46, 0), NONE);
     }
@@ -341,8 +333,8 @@ public final class GrammarTest {
     /** Nothing of one text is left behind when another is read. */
     private static void oneAfterAnother() {
         String[] broken = {"S=((((((a", "S=[a-", "S=a;S=b;", "S=((T));", "S=" + "(a)".repeat(30) + ";", "S=[a-c"};
-        SlotForest x = new SlotForest();
         for (String text : broken) {
+            Subject x = new Subject();
             for (int again = 0; again < 12; again++) {
                 Check.grammar(x, text);
                 CHECK.due("slots behind " + text, Check.grammar(x, BIG), 23);
@@ -357,7 +349,7 @@ public final class GrammarTest {
                 CHECK.due("no alternates of the one", x.rule(1, -1), NONE);
             }
         }
-        Check.grammar(x, "S=;");
+        Subject x = Check.with("S=;");
         Check.grammar(x, "S=a;");
         CHECK.due("no more NULLABLE", x.set(0, 0), 0);
     }

@@ -4,14 +4,16 @@ import java.util.Random;
 /** Holds every answer on many made-up grammars and inputs against those of the Oracle. */
 public final class OracleTest {
     private static final Check CHECK = new Check();
+    /** Enough for several grammars on one object, and few enough to leave it calls to answer. */
+    private static final int MOST_CHANGES = 150;
 
     private final Random random;
     /** Used for many grammars, so that what one leaves behind shows in another. */
-    private SlotForest forest;
+    private Subject forest;
 
     private OracleTest(long seed) {
         random = new Random(seed);
-        forest = new SlotForest();
+        forest = new Subject();
     }
 
     public static void main(String[] args) {
@@ -31,7 +33,7 @@ public final class OracleTest {
     private static final String[] WIDE = {
         "S=AAAAAAA;A=BBBBBBB;B=CCCCCCC;C=DDDDDDD;D=EEEEEEE;E=FFFFFFF;F=GGGGGGG;G=HHHHHHH;H=IIIIIII;"
             + "I=JJJJJJJ;J=KKKKKKK;K=LLLLLLL;L=|a;",
-        "S=S|T;T=AAAAAAA;A=BBBBBBB;B=CCCCCCC;C=DDDDDDD;D=EEEEEEE;E=FFFFFFF;F=GGGGGGG;G=HHHHHHH;H=IIIIIII;"
+        "S=T|S;T=AAAAAAA;A=BBBBBBB;B=CCCCCCC;C=DDDDDDD;D=EEEEEEE;E=FFFFFFF;F=GGGGGGG;G=HHHHHHH;H=IIIIIII;"
             + "I=JJJJJJJ;J=KKKKKKK;K=LLLLLLL;L=|a;",
         "S=AaA|AAA|AA|B;A=BBBBBBB;B=CCCCCCC;C=DDDDDDD;D=EEEEEEE;E=FFFFFFF;F=GGGGGGG;G=HHHHHHH;H=IIIIIII;"
             + "I=JJJJJJJ;J=KKKKKKK;K=LLLLLLL;L=|a|aL;",
@@ -42,8 +44,8 @@ public final class OracleTest {
 
     private void round(int round) {
         String grammar = makeGrammar();
-        if (random.nextInt(50) == 0) {
-            forest = new SlotForest();
+        if (forest.changes() > MOST_CHANGES) {
+            forest = new Subject();
         }
         if (random.nextInt(4) == 0) {
             grammar = spoil(grammar);
@@ -112,7 +114,7 @@ public final class OracleTest {
         if (random.nextBoolean()) {
             CHECK.due(about + " least()", forest.least(), least);
         }
-        for (int k = 0; k < 505; k++) {
+        for (int k = 0; k < steps.size() + 2; k++) {
             for (int what = 0; what < 3; what++) {
                 CHECK.due(about + " step " + k + " " + what, forest.step(k, what),
                         k < steps.size() ? steps.get(k)[what] : -1);
@@ -123,8 +125,9 @@ public final class OracleTest {
         }
         CHECK.due(about + " trees()", forest.trees(), oracle.trees());
         CHECK.due(about + " least()", forest.least(), least);
-        for (int i = 0; i < 15; i++) {
-            for (int k = 0; k < 15; k++) {
+        int places = Math.min(15, oracle.n + 2);
+        for (int i = 0; i < places; i++) {
+            for (int k = 0; k < places; k++) {
                 holdSpan(oracle, i, k, about);
             }
         }
