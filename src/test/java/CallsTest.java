@@ -78,6 +78,10 @@ public final class CallsTest {
             run.due("type", x -> x.type(' ', 1), run.calls < 400);
         }
         run.end();
+        CallsTest last = new CallsTest("type, the last");
+        last.idleUpTo(511);
+        last.type("S=a;");
+        last.end();
         CallsTest late = new CallsTest("late type");
         late.idleUpTo(509);
         late.grammar("S=a;", 2);

@@ -69,21 +69,20 @@ final class Check {
         return bits;
     }
 
-    /** All that is told of the grammar and the input, as one text. */
+    /** All that is told of the grammar and the input, as one text; first what is found on demand. */
     static String answers(Subject x) {
-        StringBuilder all = new StringBuilder(ofGrammar(x));
+        StringBuilder all = new StringBuilder("trees ").append(x.trees()).append(" least ").append(x.least());
+        for (int k = 0; k < 500 && x.step(k, 0) != SlotForest.NONE; k++) {
+            all.append(" step ").append(x.step(k, 0)).append(' ').append(x.step(k, 1)).append(' ').append(x.step(k, 2));
+        }
         for (int what = 0; what < 8; what++) {
             all.append(" count ").append(x.count(what));
         }
-        all.append(" looked ").append(x.looked(0)).append(' ').append(x.looked(1));
+        all.append(" looked ").append(x.looked(0)).append(' ').append(x.looked(1)).append(ofGrammar(x));
         for (int j = 0; j < 15; j++) {
             for (int i = j; i < 15; i++) {
                 all.append(ofSpan(x, j, i));
             }
-        }
-        all.append(" trees ").append(x.trees()).append(" least ").append(x.least());
-        for (int k = 0; k < 500 && x.step(k, 0) != SlotForest.NONE; k++) {
-            all.append(" step ").append(x.step(k, 0)).append(' ').append(x.step(k, 1)).append(' ').append(x.step(k, 2));
         }
         return all.toString();
     }

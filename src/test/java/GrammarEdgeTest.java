@@ -17,7 +17,7 @@ public final class GrammarEdgeTest {
         slotsOfAlternates();
         sizeOfAnotherWhat();
         sizesAtFirstAndAtMost();
-        sizesStayInTheirOrder();
+        nothingOfTheGrammarBefore();
         ruleEnds();
         ruleOfTheLargest();
         ruleWithoutGrammar();
@@ -104,6 +104,7 @@ public final class GrammarEdgeTest {
         hasRules("S=S+;", "0:1 1:0,1 1:0");
         hasRules("S=S?;", "0:1 1:0 1:");
         hasRules("S=[a-c]*b;", "0:1,b 1:abc,1 1:");
+        hasRules("S=[ab][c]x[d-e][d];", "0:ab,c,x,de,d");
         hasRules("S=x[a-c]+|y;", "0:x,1 0:y 1:abc,1 1:abc");
     }
 
@@ -142,13 +143,25 @@ public final class GrammarEdgeTest {
         }
     }
 
-    private static void sizesStayInTheirOrder() {
-        Subject x = Check.with(LARGEST);
-        Check.grammar(x, "S=;");
-        int[] want = {1, 1, 1, 0};
-        for (int what = 0; what < 4; what++) {
-            CHECK.due("size behind the largest " + what, x.size(what), want[what]);
+    /** Nothing of one text is left behind when another is read. */
+    private static void nothingOfTheGrammarBefore() {
+        String[] texts = {LARGEST, "S=;", "S=a*b;T=S?;", "S=((((((a", "S=((", "S=[a-", "S=[a-f", "S=a;S=b;", "S=((T));",
+            "S=" + "(a)".repeat(30) + ";", "S=[a-c][d](e|f)+;", "Z=y;"};
+        for (String text : texts) {
+            for (String before : texts) {
+                Subject x = untouched(before);
+                String fresh = Check.grammar(new Subject(), text);
+                CHECK.due("grammar " + text + " behind " + before, Check.grammar(x, text), fresh);
+                Subject same = untouched(fresh.startsWith("Ill") ? before : text);
+                CHECK.due(text + " behind " + before, Check.answers(x), Check.answers(same));
+            }
         }
+    }
+
+    private static Subject untouched(String text) {
+        Subject x = new Subject();
+        Check.grammar(x, text);
+        return x;
     }
 
     // ---- promise 6
@@ -265,6 +278,7 @@ public final class GrammarEdgeTest {
         sets("S=a;T=Sb;", 2, Check.bits("b$"), 0);
         sets("S=a;T=U;U=ST;", 2, Check.bits("a$"), 0, 0);
         sets("S=T;T=;U=Tc;V=UdS;", 2, Check.bits("$"), Check.bits("c$"), Check.bits("d"), 0);
+        sets("S=TyVx;T=W;V=T;W=;", 2, Check.bits("$"), Check.bits("xy"), Check.bits("x"), Check.bits("xy"));
         sets("S=a;T=b*;", 2, Check.bits("$"), 0, 0);
     }
 

@@ -25,7 +25,7 @@ public final class InputEdgeTest {
         noInputStaysNone();
         blanksInInputs();
         endStandsAtN();
-        endMovesWithTheInput();
+        oneAfterAnother();
         triedAndReached();
         reachedOverAll();
         reachedOfNoPlace();
@@ -44,6 +44,7 @@ public final class InputEdgeTest {
         packedOfNoNode();
         usefulOrNot();
         atLeastTwoPacked();
+        largestForest();
         CHECK.end();
     }
 
@@ -223,13 +224,27 @@ public final class InputEdgeTest {
         }
     }
 
-    /** Nothing of a longer input is left behind a shorter one, nor the other way round. */
-    private static void endMovesWithTheInput() {
-        Subject x = Check.with("S=SS|a|;");
-        for (int n : new int[] {14, 0, 7, 14, 6, 13, 1, 0}) {
-            Check.parse(x, "a".repeat(n));
-            String fresh = Check.answers(Check.with("S=SS|a|;", "a".repeat(n)));
-            CHECK.due(n + " letters on a used object", Check.answers(x), fresh);
+    /** Nothing of one input is left behind in another, by the same grammar or by a new one. */
+    private static void oneAfterAnother() {
+        String[] grammars = {"S=SS|a|;", "S=TU;T=|a;U=a|b*;", "S=aTb|aUc|b;T=T|a|;U=a|;", "S=TU;T=a|aa;U=aa|b;"};
+        String[] inputs = {"", "a", "aaa", "aac", "aab", "b", "aaaaaa", "aaaaaaaaaaaaaa", "ba", "c"};
+        for (int one = 0; one < grammars.length * inputs.length; one++) {
+            String grammar = grammars[one % grammars.length];
+            String input = inputs[one / grammars.length];
+            String fresh = Check.answers(Check.with(grammar, input));
+            for (int other = 0; other < grammars.length * inputs.length; other++) {
+                String otherGrammar = grammars[other % grammars.length];
+                String otherInput = inputs[other / grammars.length];
+                Subject x = Check.with(otherGrammar, otherInput);
+                x.trees();
+                x.step(0, 0);
+                x.count(7);
+                if (!grammar.equals(otherGrammar)) {
+                    Check.grammar(x, grammar);
+                }
+                Check.parse(x, input);
+                CHECK.due(grammar + " " + input + " behind " + otherGrammar + " " + otherInput, Check.answers(x), fresh);
+            }
         }
     }
 
@@ -479,6 +494,8 @@ public final class InputEdgeTest {
             CHECK.due("T of " + n, x.packed(1, 0, n), 1);
             CHECK.due("U of " + n, x.packed(2, 0, n), 1);
         }
+        CHECK.due("no pivot where the last symbol covers less", Check.with("S=TU;T=|a;U=a;", "aa").packed(0, 0, 2), 1);
+        CHECK.due("no pivot where the first symbol covers less", Check.with("S=TU;T=a;U=|a;", "aa").packed(0, 0, 2), 1);
         CHECK.due("no pivot but the last", Check.with("S=aT;T=;", "a").packed(0, 0, 1), 1);
         CHECK.due("no pivot but the first", Check.with("S=Ta;T=;", "a").packed(0, 0, 1), 1);
         CHECK.due("a SET's one pivot", Check.with("S=T[ab];T=a*;", "aa").packed(0, 0, 2), 1);
@@ -519,6 +536,8 @@ public final class InputEdgeTest {
         CHECK.due("the root alone", Check.with("S=abc;", "abc").count(6), 1);
         CHECK.due("with its parts", Check.with("S=TbU;T=a;U=c;", "abc").count(6), 3);
         CHECK.due("with parts of parts", Check.with("S=T;T=U;U=V;V=a;", "a").count(6), 4);
+        CHECK.due("by each pivot", Check.with("S=TUV;T=|a;U=|a;V=|a;", "a").count(6), 8);
+        CHECK.due("by each pivot of each slot", Check.with("S=TUVWX;T=|a;U=|a;V=|a;W=|a;X=|a;", "a").count(6), 14);
         CHECK.due("through inner nodes", Check.with("S=TTTTTT;T=|a;", "a").count(6), 4);
         Subject x = Check.with("S=Tab|Uac;T=x;U=x;", "xac");
         CHECK.due("symbol nodes", x.count(3), 3);
@@ -538,5 +557,21 @@ public final class InputEdgeTest {
         CHECK.due("two in a part", Check.with("S=bT;T=a|a;", "ba").count(7), 1);
         CHECK.due("two in one that is not useful", Check.with("S=bTb|bU;T=a|a;U=ac;", "bac").count(7), 0);
         CHECK.due("two without a root", Check.with("S=Ta;T=b|b;", "b").count(7), 0);
+    }
+
+    /** Nearly every slot is reached at nearly every j, i. */
+    private static void largestForest() {
+        Subject x = Check.with("S=" + "S".repeat(149) + "|a|;", "a".repeat(14));
+        int[] want = {149 * 120 + 58, 15, 148 * 120 + 15, 120, 147 * 120, 148 * 680 + 29, 120, 120};
+        for (int what = 0; what < 8; what++) {
+            CHECK.due("the largest forest: count " + what, x.count(what), want[what]);
+        }
+        CHECK.due("its trees", x.trees(), NONE);
+        CHECK.due("its least tree", x.least(), 150);
+        CHECK.due("its first node", x.step(0, 0), 0);
+        CHECK.due("the node behind it", x.step(1, 0), 2);
+        CHECK.due("its last node", x.step(149, 0), 1);
+        CHECK.due("where that begins", x.step(149, 1), 13);
+        CHECK.due("no more nodes", x.step(150, 0), NONE);
     }
 }

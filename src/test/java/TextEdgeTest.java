@@ -14,6 +14,7 @@ public final class TextEdgeTest {
     public static void main(String[] args) {
         wordLength();
         bytes();
+        refusedBytesChangeNothing();
         onlyTheLowestBytes();
         highestFirst();
         tapeIsFull();
@@ -88,6 +89,19 @@ public final class TextEdgeTest {
                     long word = Check.word("aaaaaaaa") & ~(255L << 8 * at) | (long) c << 8 * at;
                     CHECK.due("byte " + c + " at " + at + " of " + n, x.type(word, n), fits);
                 }
+            }
+        }
+    }
+
+    /** "false, changing nothing, [..] for a byte that is not 32 .. 126": nothing of the word is put there. */
+    private static void refusedBytesChangeNothing() {
+        for (int c : new int[] {0, 31, 127, 128, 255}) {
+            for (int at = 0; at < 8; at++) {
+                Subject x = Check.untold("S=abc");
+                long word = Check.word("dddddddd") & ~(255L << 8 * at) | (long) c << 8 * at;
+                CHECK.due("byte " + c + " at " + at, x.type(word, 8), false);
+                Check.type(x, "e;");
+                holds("the tape behind byte " + c + " at " + at, x, "abce");
             }
         }
     }

@@ -50,6 +50,7 @@ public final class TreeEdgeTest {
         stepsUpTo500();
         stepsWithoutRoot();
         stepOfAnotherWhat();
+        oneAfterAnother();
         CHECK.end();
     }
 
@@ -172,6 +173,8 @@ public final class TreeEdgeTest {
         trees("a circle times 10^13", "S=TKKKKKKKKKKKKK;T=T|;" + TENS, "", NONE);
         trees("with the first pivot", "S=TU;T=|a;U=|W;W=W|a;", "a", NONE);
         trees("with the last pivot", "S=UT;T=|a;U=|W;W=W|a;", "a", NONE);
+        trees("10^13 times a circle with the first pivot", "S=TU;T=KKKKKKKKKKKKK|a;U=|W;W=W|a;" + TENS, "a", NONE);
+        trees("10^13 times a circle with the last pivot", "S=UT;T=KKKKKKKKKKKKK|a;U=|W;W=W|a;" + TENS, "a", NONE);
         trees("x* of what can be nothing", "S=(a?)*;", "a", NONE);
         trees("x+ of what can be nothing", "S=(a?)+;", "a", NONE);
         trees("x? of S", "S=S?;", "", NONE);
@@ -267,6 +270,8 @@ public final class TreeEdgeTest {
         steps("S=SS|a|;", "", "2,0,0");
         steps("S=SS|a|;", "aa", "0,0,2 1,0,1 1,1,2");
         steps("S=T;T=U;U=S|T|U|a;", "a", "0,0,1 1,0,1 5,0,1");
+        least("a circle beside many nodes", "S=S|" + "T".repeat(100) + ";T=;", "", 101);
+        least("a circle of two beside many nodes", "S=T;T=S|" + "U".repeat(100) + ";U=;", "", 102);
         least("from the last to the first", "S=R;R=A|Q;Q=P;P=O;O=N;N=M;M=L;L=K;K=J;J=I;I=H;H=G;G=F;F=E;E=D;D=C;C=B;"
                 + "B=R|a;A=S;", "a", 18);
     }
@@ -448,6 +453,29 @@ public final class TreeEdgeTest {
         int[] last = {1, 1, 2};
         for (int what = 0; what < 3; what++) {
             CHECK.due("step 2 " + what, x.step(2, what), last[what]);
+        }
+    }
+
+    /** Nothing of one grammar's trees is left behind when another's are found. */
+    private static void oneAfterAnother() {
+        String[] grammars = {"S=a|a;", "S=S|a;", "S=" + "T".repeat(40) + "a;T=|;", "S=T|SS;T=a|b;", "S=U;T=a;U=T|V;V=T;",
+            "S=b;"};
+        long[] trees = {2, NONE, MOST_TREES, 1, 2, 0};
+        int[] sizes = {1, 1, 41, 2, 3, 0};
+        int[] ends = {0, 1, 0, 0, 0, NONE};
+        for (int one = 0; one < grammars.length; one++) {
+            for (int other = 0; other < grammars.length; other++) {
+                Subject x = Check.with(grammars[one], "a");
+                x.trees();
+                x.step(0, 0);
+                Check.grammar(x, grammars[other]);
+                Check.parse(x, "a");
+                String about = grammars[other] + " behind " + grammars[one];
+                CHECK.due(about + ": trees", x.trees(), trees[other]);
+                CHECK.due(about + ": least", x.least(), sizes[other]);
+                CHECK.due(about + ": step", x.step(0, 0), ends[other]);
+                CHECK.due(about + ": no more steps", x.step(sizes[other], 0), NONE);
+            }
         }
     }
 }
