@@ -243,7 +243,8 @@ public final class InputEdgeTest {
                     Check.grammar(x, grammar);
                 }
                 Check.parse(x, input);
-                CHECK.due(grammar + " " + input + " behind " + otherGrammar + " " + otherInput, Check.answers(x), fresh);
+                CHECK.due(grammar + " " + input + " behind " + otherGrammar + " " + otherInput, Check.answers(x),
+                        fresh);
             }
         }
     }
@@ -452,7 +453,7 @@ public final class InputEdgeTest {
         CHECK.due("these two", Check.with("S=Ta|Tb;T=c;", "cb").count(2), 2);
     }
 
-    /** "at least two symbols ahead of it and one behind it". */
+    /** "at least two symbols are ahead of it and one behind it". */
     private static void innerNodesByLength() {
         String letters = "abcdefghijklmn";
         for (int n = 0; n <= 14; n++) {

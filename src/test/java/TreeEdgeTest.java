@@ -458,8 +458,8 @@ public final class TreeEdgeTest {
 
     /** Nothing of one grammar's trees is left behind when another's are found. */
     private static void oneAfterAnother() {
-        String[] grammars = {"S=a|a;", "S=S|a;", "S=" + "T".repeat(40) + "a;T=|;", "S=T|SS;T=a|b;", "S=U;T=a;U=T|V;V=T;",
-            "S=b;"};
+        String[] grammars = {"S=a|a;", "S=S|a;", "S=" + "T".repeat(40) + "a;T=|;", "S=T|SS;T=a|b;",
+            "S=U;T=a;U=T|V;V=T;", "S=b;"};
         long[] trees = {2, NONE, MOST_TREES, 1, 2, 0};
         int[] sizes = {1, 1, 41, 2, 3, 0};
         int[] ends = {0, 1, 0, 0, 0, NONE};
